@@ -615,29 +615,37 @@ public final class RubbedWelds {
          * ring's neighbour, and no second row is wanted for the warmth ahead of the tick.
          */
         private boolean tick(Job job, int work, int push) {
-            int[] marks = job.marks;
-            int rings = marks[RINGS];
+            int rings = job.marks[RINGS];
+            int lead = job.marks[LEAD];
+            int soft = job.marks[SOFT];
+            int heat = job.marks[HEAT];
+            int give = job.marks[GIVE];
+            // The bounds of stuffs keep both above 0; as divisors they are looked at all the same.
+            if (heat < 1 || give < 1) {
+                return false;
+            }
             int taken = 0;
             boolean moved = false;
             for (int ring = 0; ring < rings; ring++) {
                 int was = warm[ring];
                 int beside = ring + 1 < rings ? warm[ring + 1] : COLD;
-                int led = (was - beside) * marks[LEAD] / 1000;
-                int gain = work * (ring + 1) / marks[HEAT];
-                int given = 0;
-                if (was >= marks[SOFT]) {
+                int led = (was - beside) * lead / 1000;
+                int gain = work * (ring + 1) / heat;
+                if (was >= soft) {
                     gain /= 2;
-                    given = push * (was - marks[SOFT] + 1) / marks[GIVE];
+                    int given = out[ring] + push * (was - soft + 1) / give;
+                    given = given > MOST_OUT ? MOST_OUT : given;
+                    moved = moved || given != out[ring];
+                    out[ring] = given;
                 }
                 int is = was + taken - led + gain;
                 is = is > MOST_WARM ? MOST_WARM : is;
-                warm[ring] = is;
-                peak[ring] = is > peak[ring] ? is : peak[ring];
-                fall[ring] = was - is > fall[ring] ? was - is : fall[ring];
-                given += out[ring];
-                given = given > MOST_OUT ? MOST_OUT : given;
-                moved = moved || is != was || given != out[ring];
-                out[ring] = given;
+                if (is != was) {
+                    moved = true;
+                    warm[ring] = is;
+                    peak[ring] = is > peak[ring] ? is : peak[ring];
+                    fall[ring] = was - is > fall[ring] ? was - is : fall[ring];
+                }
                 taken = led;
             }
             return moved;

@@ -3,7 +3,7 @@ import java.util.Random;
 
 /** Random runs of calls (the seeds are fixed), each answer held against that of PlainWelds. */
 public final class ModelTests {
-    private static final int RUNS = 400;
+    private static final int RUNS = 120;
     private static final int CALLS = 512;
 
     private final Random random;
