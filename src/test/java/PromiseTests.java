@@ -1,6 +1,7 @@
 /**
  * One method for each promise: ordinary inputs, the edges that the document names, and wrong inputs.
- * The answers that are due were reckoned by hand from the document.
+ * The answers that are due were reckoned by hand from the document or stand in the shared test, but for the stuff
+ * whose two greatest boxes are alike: that was searched for with the program, and PlainWelds says the same of it.
  */
 public final class PromiseTests {
     private static final int NO_RING = -1000000;
