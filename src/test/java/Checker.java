@@ -2,21 +2,31 @@ import java.util.NoSuchElementException;
 
 /** Counts answers that are not as due, and says which. */
 final class Checker {
+    private String where = "";
     private int asked;
     private int wrong;
+
+    /** What is asked from here on is told with this name. */
+    void begin(String name) {
+        where = name + ": ";
+    }
 
     void due(String what, long want, long got) {
         asked++;
         if (want != got) {
             wrong++;
             if (wrong <= 50) {
-                System.out.println(what + " answered " + got + ", due is " + want);
+                System.out.println(where + what + " answered " + got + ", due is " + want);
             }
         }
     }
 
     void due(String what, boolean want, boolean got) {
         due(what, want ? 1 : 0, got ? 1 : 0);
+    }
+
+    void due(String what, String want, String got) {
+        due(what + ": " + got + ", wanted " + want, true, want.equals(got));
     }
 
     void throwsNoSuch(RubbedWelds welds, int job, int what) {
@@ -27,6 +37,10 @@ final class Checker {
             thrown = true;
         }
         due("told(" + job + ", " + what + ") throws", true, thrown);
+    }
+
+    int asked() {
+        return asked;
     }
 
     int wrong() {

@@ -9,29 +9,6 @@ public final class PromiseTests {
 
     private final Checker c = new Checker();
 
-    /** A stuff that keeps its warmth: of a job of it with two rings, turn 3 and push 1, loss 1 is bad and 2 good. */
-    private static RubbedWelds still() {
-        RubbedWelds x = new RubbedWelds();
-        x.stuff(10, 10, 0, 50, 1, 50, 10, 500);
-        x.job(0, 0, 2);
-        return x;
-    }
-
-    /** A job of two rings that leads warmth fast; by setting 0 its rings peak at 209 and 230 and fall by 14 and 8. */
-    private static RubbedWelds leading(int hot, int need, int crack) {
-        RubbedWelds x = new RubbedWelds();
-        x.stuff(100, 1, 300, 50, 1, hot, need, crack);
-        x.job(0, 0, 2);
-        return x;
-    }
-
-    /** The window of the settings 162, 163, 171, 172 of the still stuff, of which the first alone is bad. */
-    private static RubbedWelds windowed() {
-        RubbedWelds x = still();
-        x.window(0, 162, 172);
-        return x;
-    }
-
     private void newObject() {
         RubbedWelds x = new RubbedWelds();
         for (int what = 0; what <= 6; what++) {
@@ -62,39 +39,33 @@ public final class PromiseTests {
         c.due("days stays", 1000, x.count(0));
     }
 
-    private static int stuffBut(RubbedWelds x, int what, int mark) {
-        int[] m = {10, 10, 10, 100, 10, 100, 10, 10};
-        m[what] = mark;
-        return x.stuff(m[0], m[1], m[2], m[3], m[4], m[5], m[6], m[7]);
-    }
-
     private void stuff() {
         int[] least = {1, 1, 0, 50, 1, 50, 0, 1};
         int[] most = {100, 100, 300, 900, 100, 999, 500, 500};
         for (int what = 0; what < 8; what++) {
             RubbedWelds x = new RubbedWelds();
-            c.due("stuff below, mark " + what, -1, stuffBut(x, what, least[what] - 1));
-            c.due("stuff above, mark " + what, -1, stuffBut(x, what, most[what] + 1));
-            c.due("stuff far below, mark " + what, -1, stuffBut(x, what, Integer.MIN_VALUE));
-            c.due("stuff far above, mark " + what, -1, stuffBut(x, what, Integer.MAX_VALUE));
-            c.due("stuff least, mark " + what, 0, stuffBut(x, what, least[what]));
-            c.due("stuff most, mark " + what, 1, stuffBut(x, what, most[what]));
+            c.due("stuff below, mark " + what, -1, Given.stuffBut(x, what, least[what] - 1));
+            c.due("stuff above, mark " + what, -1, Given.stuffBut(x, what, most[what] + 1));
+            c.due("stuff far below, mark " + what, -1, Given.stuffBut(x, what, Integer.MIN_VALUE));
+            c.due("stuff far above, mark " + what, -1, Given.stuffBut(x, what, Integer.MAX_VALUE));
+            c.due("stuff least, mark " + what, 0, Given.stuffBut(x, what, least[what]));
+            c.due("stuff most, mark " + what, 1, Given.stuffBut(x, what, most[what]));
             c.due("stuff count", 2, x.count(1));
         }
         RubbedWelds x = new RubbedWelds();
         for (int i = 0; i < 6; i++) {
-            c.due("stuff number", i, stuffBut(x, 0, 1));
+            c.due("stuff number", i, Given.stuffBut(x, 0, 1));
         }
-        c.due("seventh stuff", -1, stuffBut(x, 0, 1));
+        c.due("seventh stuff", -1, Given.stuffBut(x, 0, 1));
         c.due("six stuffs", 6, x.count(1));
     }
 
     private void bar() {
         RubbedWelds x = new RubbedWelds();
         c.due("bar without stuffs", false, x.bar(0, 0));
-        stuffBut(x, 0, 1);
-        stuffBut(x, 0, 1);
-        stuffBut(x, 0, 1);
+        Given.stuffBut(x, 0, 1);
+        Given.stuffBut(x, 0, 1);
+        Given.stuffBut(x, 0, 1);
         c.due("bar -1", false, x.bar(-1, 0));
         c.due("bar 3", false, x.bar(0, 3));
         c.due("bar 32, as a shift would take it", false, x.bar(0, 32));
@@ -114,8 +85,8 @@ public final class PromiseTests {
 
     private void job() {
         RubbedWelds x = new RubbedWelds();
-        stuffBut(x, 0, 1);
-        stuffBut(x, 0, 1);
+        Given.stuffBut(x, 0, 1);
+        Given.stuffBut(x, 0, 1);
         c.due("job stuff -1", -1, x.job(-1, 0, 2));
         c.due("job stuff 2", -1, x.job(0, 2, 2));
         c.due("job rings 1", -1, x.job(0, 1, 1));
@@ -167,18 +138,18 @@ public final class PromiseTests {
     }
 
     private void verdict() {
-        c.due("good at every mark's edge", 0, leading(209, 500, 14).verdict(0, 0));
-        c.due("peak below hot", 2, leading(210, 500, 14).verdict(0, 0));
-        c.due("fall above crack", 4, leading(209, 500, 13).verdict(0, 0));
-        c.due("peak ahead of fall", 2, leading(210, 500, 13).verdict(0, 0));
+        c.due("good at every mark's edge", 0, Given.leading(209, 500, 14).verdict(0, 0));
+        c.due("peak below hot", 2, Given.leading(210, 500, 14).verdict(0, 0));
+        c.due("fall above crack", 4, Given.leading(209, 500, 13).verdict(0, 0));
+        c.due("peak ahead of fall", 2, Given.leading(210, 500, 13).verdict(0, 0));
         RubbedWelds short3 = new RubbedWelds();
         // Ring 0 peaks at 51 and gives 1 in the last tick of rubbing and 4 in each of pressing: 21.
         short3.stuff(10, 10, 0, 50, 1, 50, 22, 500);
         short3.job(0, 0, 2);
         c.due("out below need", 3, short3.verdict(0, 163));
-        c.due("a good one", 0, still().verdict(0, 163));
+        c.due("a good one", 0, Given.still().verdict(0, 163));
         stuckEdges();
-        RubbedWelds x = still();
+        RubbedWelds x = Given.still();
         c.due("verdict setting -1", -1, x.verdict(0, -1));
         c.due("verdict setting 729", -1, x.verdict(0, 729));
         c.due("verdict job 1", -1, x.verdict(1, 0));
@@ -198,7 +169,7 @@ public final class PromiseTests {
     }
 
     private void ring() {
-        RubbedWelds x = leading(209, 500, 14);
+        RubbedWelds x = Given.leading(209, 500, 14);
         int[][] due = {{26, 209, 1457, 14}, {24, 230, 1165, 8}};
         for (int ring = 0; ring < 2; ring++) {
             for (int what = 0; what < 4; what++) {
@@ -222,8 +193,8 @@ public final class PromiseTests {
     }
 
     private void by() {
-        c.due("by of peak", 0, leading(210, 0, 500).by(0, 0));
-        c.due("by of good", -1, leading(209, 500, 14).by(0, 0));
+        c.due("by of peak", 0, Given.leading(210, 0, 500).by(0, 0));
+        c.due("by of good", -1, Given.leading(209, 500, 14).by(0, 0));
         RubbedWelds x = new RubbedWelds();
         x.stuff(100, 1, 0, 50, 1, 50, 0, 1);
         x.stuff(100, 1, 2, 50, 1, 50, 0, 1);
@@ -238,17 +209,17 @@ public final class PromiseTests {
     }
 
     private void ticks() {
-        RubbedWelds x = still();
+        RubbedWelds x = Given.still();
         c.due("ticks 1 1 1", 21, x.ticks(0, 0));
         c.due("ticks 3 1 2", 11, x.ticks(0, 163));
-        c.due("ticks of a fast one", 2, leading(209, 0, 500).ticks(0, 0));
+        c.due("ticks of a fast one", 2, Given.leading(209, 0, 500).ticks(0, 0));
         c.due("ticks setting 729", -1, x.ticks(0, 729));
         c.due("ticks setting -1", -1, x.ticks(0, -1));
         c.due("ticks job 1", -1, x.ticks(1, 0));
     }
 
     private void window() {
-        RubbedWelds x = still();
+        RubbedWelds x = Given.still();
         c.due("window job", -1, x.window(1, 0, 0));
         c.due("window from", -1, x.window(0, -1, 0));
         c.due("window to", -1, x.window(0, 0, 729));
@@ -268,7 +239,7 @@ public final class PromiseTests {
     }
 
     private void good() {
-        RubbedWelds x = windowed();
+        RubbedWelds x = Given.windowed();
         c.due("good", 3, x.good(0));
         x.window(0, 0, 0);
         c.due("good of none", 0, x.good(1));
@@ -277,7 +248,7 @@ public final class PromiseTests {
     }
 
     private void leaves() {
-        RubbedWelds x = windowed();
+        RubbedWelds x = Given.windowed();
         c.due("leaves", 3, x.leaves(0));
         x.window(0, 0, 0);
         c.due("leaves of one", 1, x.leaves(1));
@@ -288,7 +259,7 @@ public final class PromiseTests {
     }
 
     private void proof() {
-        RubbedWelds x = windowed();
+        RubbedWelds x = Given.windowed();
         // Cuts of push and of loss lead to three leaves: the lesser number is taken.
         int[] due = {10, 18, 1, 0, 0};
         c.due("proof length", 5, x.proof(0, -1));
@@ -323,7 +294,7 @@ public final class PromiseTests {
     }
 
     private void copy() {
-        RubbedWelds x = windowed();
+        RubbedWelds x = Given.windowed();
         x.tell(7);
         for (int i = 0; i < 9; i++) {
             x.tell(0);
@@ -339,7 +310,7 @@ public final class PromiseTests {
     }
 
     private void alter() {
-        RubbedWelds x = windowed();
+        RubbedWelds x = Given.windowed();
         c.due("alter an empty tape", false, x.alter(0, 0));
         x.copy(0);
         c.due("alter -1", false, x.alter(-1, 0));
@@ -352,7 +323,7 @@ public final class PromiseTests {
     }
 
     private void end() {
-        RubbedWelds x = windowed();
+        RubbedWelds x = Given.windowed();
         c.due("end 0 of an empty tape", true, x.end(0));
         c.due("end 1 of an empty tape", false, x.end(1));
         x.copy(0);
@@ -366,7 +337,7 @@ public final class PromiseTests {
     }
 
     private void checkRow(String what, int due, int... row) {
-        RubbedWelds x = windowed();
+        RubbedWelds x = Given.windowed();
         for (int number : row) {
             x.tell(number);
         }
@@ -391,13 +362,13 @@ public final class PromiseTests {
         checkRow("a row that goes on with a wrong number", 5, 10, 18, 1, 0, 0, 31);
         checkRow("1 for a good one", 4, 10, 18, 1, 0, 1);
         checkRow("a cut of a single setting", 2, 10, 18, 18, 1, 0);
-        RubbedWelds x = windowed();
+        RubbedWelds x = Given.windowed();
         c.due("check of no window", -2, x.check(1));
         c.due("check of window -1", -2, x.check(-1));
     }
 
     private void greatest() {
-        RubbedWelds x = windowed();
+        RubbedWelds x = Given.windowed();
         // 163 with 172 and 171 with 172 are alike in size: the lesser lowest setting.
         c.due("greatest from", 163, x.greatest(0, 0));
         c.due("greatest to", 172, x.greatest(0, 1));
@@ -423,7 +394,7 @@ public final class PromiseTests {
     }
 
     private void edge() {
-        RubbedWelds x = windowed();
+        RubbedWelds x = Given.windowed();
         c.due("edge of the bad one, the least of the near", 163, x.edge(0, 162));
         c.due("edge of a good one", 162, x.edge(0, 163));
         c.due("edge two steps away", 162, x.edge(0, 172));
@@ -437,7 +408,7 @@ public final class PromiseTests {
     }
 
     private void mended() {
-        RubbedWelds x = still();
+        RubbedWelds x = Given.still();
         c.due("mended by more push, more loss", 8 + 32, x.mended(0, 162));
         // From 3 2 2 (172): less push is 163, less loss 171; both are good.
         c.due("mended of a good one has less push, less loss", 4 + 16, x.mended(0, 172) & (4 + 16));
@@ -459,7 +430,7 @@ public final class PromiseTests {
     }
 
     private void joint() {
-        RubbedWelds x = still();
+        RubbedWelds x = Given.still();
         c.due("joint job", -1, x.joint(1, 0));
         c.due("joint setting", -1, x.joint(0, 729));
         c.due("joint setting -1", -1, x.joint(0, -1));
@@ -471,7 +442,7 @@ public final class PromiseTests {
     }
 
     private void attempt() {
-        RubbedWelds x = still();
+        RubbedWelds x = Given.still();
         c.due("attempt without joints", false, x.attempt(0, true));
         x.joint(0, 162);
         x.joint(0, 163);
@@ -487,7 +458,7 @@ public final class PromiseTests {
     }
 
     private void tried() {
-        RubbedWelds x = still();
+        RubbedWelds x = Given.still();
         x.days(5);
         x.joint(0, 162);
         c.due("made behind q", -1, x.tried(0, 4));
@@ -508,7 +479,7 @@ public final class PromiseTests {
     }
 
     private void odd() {
-        RubbedWelds x = still();
+        RubbedWelds x = Given.still();
         c.due("odd without joints", 0, x.odd(0));
         x.joint(0, 162);
         x.joint(0, 163);
@@ -528,9 +499,9 @@ public final class PromiseTests {
 
     private void led() {
         RubbedWelds x = new RubbedWelds();
-        stuffBut(x, 0, 1);
-        stuffBut(x, 0, 1);
-        stuffBut(x, 0, 1);
+        Given.stuffBut(x, 0, 1);
+        Given.stuffBut(x, 0, 1);
+        Given.stuffBut(x, 0, 1);
         x.job(0, 1, 2);
         x.job(1, 2, 2);
         x.job(0, 0, 2);
@@ -566,9 +537,9 @@ public final class PromiseTests {
     /** Stuffs 0 and 2 have 1 bad of 2 each; if the joint of stuff 2 twice counted twice, that had 2 of 3. */
     private void ledTwiceCountsOnce() {
         RubbedWelds x = new RubbedWelds();
-        stuffBut(x, 0, 1);
-        stuffBut(x, 0, 1);
-        stuffBut(x, 0, 1);
+        Given.stuffBut(x, 0, 1);
+        Given.stuffBut(x, 0, 1);
+        Given.stuffBut(x, 0, 1);
         x.job(0, 1, 2);
         x.job(2, 2, 2);
         x.job(2, 1, 2);
@@ -584,7 +555,7 @@ public final class PromiseTests {
     }
 
     private void work() {
-        RubbedWelds x = still();
+        RubbedWelds x = Given.still();
         c.due("work job", -1, x.work(1, 0));
         c.due("work setting", -1, x.work(0, 729));
         c.due("work setting -1", -1, x.work(0, -1));
@@ -596,7 +567,7 @@ public final class PromiseTests {
     }
 
     private void clear() {
-        RubbedWelds x = still();
+        RubbedWelds x = Given.still();
         x.clear();
         for (int i = 0; i < 8; i++) {
             x.work(0, 728 - 91 * i);
@@ -612,7 +583,7 @@ public final class PromiseTests {
     }
 
     private void order() {
-        RubbedWelds x = still();
+        RubbedWelds x = Given.still();
         x.job(0, 0, 3);
         c.due("order without", -1, x.order(-1));
         x.work(0, 162);
@@ -636,7 +607,7 @@ public final class PromiseTests {
             c.due("order far", -1, x.order(far));
         }
         // 3 for a turn, 2 for a push, 1 for a loss, 10 for another job.
-        RubbedWelds y = still();
+        RubbedWelds y = Given.still();
         y.job(0, 0, 3);
         y.work(0, 0);
         y.work(1, 91);
@@ -664,7 +635,7 @@ public final class PromiseTests {
     }
 
     private void count() {
-        RubbedWelds x = windowed();
+        RubbedWelds x = Given.windowed();
         x.days(9);
         x.stuff(10, 10, 0, 50, 1, 50, 10, 500);
         x.job(0, 1, 2);
