@@ -29,7 +29,7 @@ final class BoundsOfStuffs {
         for (int what = 2; what <= 6; what++) {
             c.due("count " + what, 0, x.count(what));
         }
-        c.throwsNoSuch(x, 0, 0);
+        c.dueToThrow(x, 0, 0);
         c.due("verdict", -1, x.verdict(0, 0));
         c.due("ring", -1000000, x.ring(0, 0, 0, 0));
         c.due("window", -1, x.window(0, 0, 0));
@@ -246,16 +246,17 @@ final class BoundsOfStuffs {
     // Promise 4
 
     @Case(promise = 4, says = "False: no such ones")
-    static void barOfNoStuffBelow(Checker c) {
-        RubbedWelds x = Given.stuffs(2);
-        c.due("bar(-1, 0)", false, x.bar(-1, 0));
-        c.due("bar(0, -1)", false, x.bar(0, -1));
-        c.due("bar(-1, -1)", false, x.bar(-1, -1));
-        c.due("bar of the lowest", true, x.bar(0, 1));
+    static void barOfNoStuff(Checker c) {
+        RubbedWelds x = Given.stuffs(3);
+        c.refuses("one", 0, 0, 2, n -> x.bar(n, 0) ? 1 : 0);
+        c.refuses("other", 0, 0, 2, n -> x.bar(0, n) ? 1 : 0);
+        c.refuses("one twice", 0, 0, 2, n -> x.bar(n, n) ? 1 : 0);
+        c.due("0 and 0 are not barred by 32 or 64", 0, x.job(0, 0, 2));
+        c.due("the lowest and the highest", true, x.bar(0, 2));
     }
 
     @Case(promise = 4, says = "False: no such ones")
-    static void barOfNoStuffAbove(Checker c) {
+    static void barOfNoStuffBehindTheSixth(Checker c) {
         RubbedWelds x = Given.stuffs(6);
         c.due("bar(6, 5)", false, x.bar(6, 5));
         c.due("bar(5, 6)", false, x.bar(5, 6));
@@ -264,14 +265,12 @@ final class BoundsOfStuffs {
     }
 
     @Case(promise = 4, says = "False: no such ones")
-    static void barOfFarNumbersDoesNotWrapAround(Checker c) {
-        RubbedWelds x = Given.stuffs(3);
-        for (int n : Given.NO_NUMBERS) {
-            c.due("bar(0, " + n + ")", false, x.bar(0, n));
-            c.due("bar(" + n + ", 0)", false, x.bar(n, 0));
-        }
-        c.due("0 and 0 are not barred", 0, x.job(0, 0, 2));
-        c.due("bar(0, 0) is new", true, x.bar(0, 0));
+    static void barWithoutStuffs(Checker c) {
+        RubbedWelds x = new RubbedWelds();
+        c.due("bar(0, 0)", false, x.bar(0, 0));
+        Given.stuffBut(x, 0, 1);
+        c.due("bar(0, 1) with one", false, x.bar(0, 1));
+        c.due("bar(0, 0) with one", true, x.bar(0, 0));
     }
 
     @Case(promise = 4, says = {"they are", "Two STUFFS are BARRED"})
@@ -322,24 +321,13 @@ final class BoundsOfStuffs {
     // Promise 5
 
     @Case(promise = 5, says = {"NONE: no such STUFFS", "A JOB: its number"})
-    static void jobOfNoStuffBelow(Checker c) {
+    static void jobOfNoStuff(Checker c) {
+        c.due("without stuffs", -1, new RubbedWelds().job(0, 0, 2));
         RubbedWelds x = Given.stuffs(2);
-        c.due("job(-1, 0, 2)", -1, x.job(-1, 0, 2));
-        c.due("job(0, -1, 2)", -1, x.job(0, -1, 2));
-        c.due("job of the lowest", 0, x.job(0, 1, 2));
-    }
-
-    @Case(promise = 5, says = "NONE: no such STUFFS")
-    static void jobOfNoStuffAbove(Checker c) {
-        RubbedWelds x = Given.stuffs(2);
-        c.due("job(2, 0, 2)", -1, x.job(2, 0, 2));
-        c.due("job(0, 2, 2)", -1, x.job(0, 2, 2));
-        for (int n : Given.NO_NUMBERS) {
-            c.due("job(" + n + ", 0, 2)", -1, x.job(n, 0, 2));
-            c.due("job(0, " + n + ", 2)", -1, x.job(0, n, 2));
-        }
+        c.refuses("one", -1, 0, 1, n -> x.job(n, 0, 2));
+        c.refuses("other", -1, 0, 1, n -> x.job(0, n, 2));
         c.due("no jobs", 0, x.count(2));
-        c.due("job of the highest", 0, x.job(1, 1, 2));
+        c.due("job of the lowest and the highest", 0, x.job(0, 1, 2));
     }
 
     @Case(promise = 5, says = {"BARRED", "of two BARRED to each other there is none"})
@@ -365,8 +353,7 @@ final class BoundsOfStuffs {
         RubbedWelds x = Given.stuffs(1);
         c.due("one ring", -1, x.job(0, 0, 1));
         c.due("no ring", -1, x.job(0, 0, 0));
-        c.due("rings -1", -1, x.job(0, 0, -1));
-        c.due("rings far below", -1, x.job(0, 0, Integer.MIN_VALUE));
+        c.refuses("rings", -1, 2, 6, n -> x.job(0, 0, n));
         c.due("two rings", 0, x.job(0, 0, 2));
         c.due("told of two rings", 2, x.told(0, 8));
     }
@@ -389,7 +376,7 @@ final class BoundsOfStuffs {
         c.due("the 21st", -1, x.job(0, 0, 2));
         c.due("20 jobs", 20, x.count(2));
         c.due("rings of the 20th", 6, x.told(19, 8));
-        c.throwsNoSuch(x, 20, 8);
+        c.dueToThrow(x, 20, 8);
     }
 
     @Case(promise = 5, says = {"Of a JOB: RUB, HEAT, LEAD, GIVE are half of both STUFFS' sums",
@@ -449,32 +436,24 @@ final class BoundsOfStuffs {
         for (int what = 0; what <= 8; what++) {
             c.due("told(0, " + what + ")", due[what], x.told(0, what));
         }
-        c.throwsNoSuch(x, 0, -1);
-        c.throwsNoSuch(x, 0, 9);
-        for (int n : Given.NO_NUMBERS) {
-            c.throwsNoSuch(x, 0, n);
-        }
+        c.refuses("what", 1, 0, 8, n -> Checker.throwsNoSuch(x, 0, n) ? 1 : 0);
     }
 
     @Case(promise = 6, says = "NoSuchElementException: no such JOB")
     static void toldOfNoJob(Checker c) {
         RubbedWelds x = Given.still();
         x.job(0, 0, 6);
-        c.throwsNoSuch(x, -1, 0);
-        c.throwsNoSuch(x, 2, 0);
-        for (int n : Given.NO_NUMBERS) {
-            c.throwsNoSuch(x, n, 0);
-        }
+        c.refuses("job", 1, 0, 1, n -> Checker.throwsNoSuch(x, n, 0) ? 1 : 0);
         c.due("the lowest job", 2, x.told(0, 8));
         c.due("the highest job", 6, x.told(1, 8));
     }
 
     @Case(promise = 6, says = "NoSuchElementException: no such JOB")
     static void toldWithoutJobs(Checker c) {
-        c.throwsNoSuch(new RubbedWelds(), 0, 0);
+        c.dueToThrow(new RubbedWelds(), 0, 0);
         RubbedWelds x = Given.stuffs(1);
-        c.throwsNoSuch(x, 0, 0);
-        c.throwsNoSuch(x, 0, 9);
+        c.dueToThrow(x, 0, 0);
+        c.dueToThrow(x, 0, 9);
         x.job(0, 0, 2);
         c.due("with one", 10, x.told(0, 0));
     }

@@ -32,24 +32,24 @@ final class BoundsOfWelds {
         RubbedWelds x = Given.still();
         c.due("setting 0: ring 0 comes to 41", 2, x.verdict(0, 0));
         c.due("setting 728", 0, x.verdict(0, 728));
-        c.due("setting -1", -1, x.verdict(0, -1));
-        c.due("setting 729", -1, x.verdict(0, 729));
     }
 
-    @Case(promise = 8, says = {"NONE: no such JOB", "SETTING."})
-    static void verdictOfNoSuchOnes(Checker c) {
+    @Case(promise = 8, says = "NONE: no such JOB")
+    static void verdictOfNoJob(Checker c) {
+        c.due("without jobs", -1, Given.stuffs(1).verdict(0, 163));
         RubbedWelds x = Given.still();
-        c.due("job -1", -1, x.verdict(-1, 163));
-        c.due("job 1", -1, x.verdict(1, 163));
-        for (int n : Given.NO_NUMBERS) {
-            c.due("job " + n, -1, x.verdict(n, 163));
-        }
-        for (int n : new int[] {Integer.MIN_VALUE, -729, 729 + 163, 65536 + 163, Integer.MAX_VALUE}) {
-            c.due("setting " + n, -1, x.verdict(0, n));
-        }
-        x.job(0, 0, 3);
-        c.due("job 1, made", 0, Math.min(0, x.verdict(1, 163)));
-        c.due("job 2", -1, x.verdict(2, 163));
+        c.due("job 0", 0, x.verdict(0, 163));
+        c.refuses("job", -1, 0, 0, n -> x.verdict(n, 163));
+        x.job(0, 0, 2);
+        c.due("job 1, made", 0, x.verdict(1, 163));
+        c.refuses("job", -1, 0, 1, n -> x.verdict(n, 163));
+    }
+
+    @Case(promise = 8, says = "SETTING.")
+    static void verdictOfNoSetting(Checker c) {
+        RubbedWelds x = Given.still();
+        c.refuses("setting", -1, 0, 728, n -> x.verdict(0, n));
+        c.due("setting 729 more", -1, x.verdict(0, 729 + 163));
     }
 
     @Case(promise = 8, says = "2 PEAK below HOT")
@@ -117,32 +117,25 @@ final class BoundsOfWelds {
 
     // Promise 9
 
-    @Case(promise = 9, says = {"Of a RING of a WELD: 0 WARM at the end, 1 PEAK, 2 OUT, 3 FALL", "-1,000,000: no such ones"})
+    @Case(promise = 9, says = {"Of a RING of a WELD: 0 WARM at the end, 1 PEAK, 2 OUT, 3 FALL",
+        "-1,000,000: no such ones"})
     static void ringOfWhatIsZeroToThree(Checker c) {
         RubbedWelds x = Given.leading(209, 500, 14);
         ringOf(c, x, 0, 0, 26, 209, 1457, 14);
         ringOf(c, x, 0, 1, 24, 230, 1165, 8);
-        c.due("what -1", NO_RING, x.ring(0, 0, 0, -1));
-        c.due("what 4", NO_RING, x.ring(0, 0, 0, 4));
-        for (int n : Given.NO_NUMBERS) {
-            c.due("what " + n, NO_RING, x.ring(0, 0, 0, n));
-        }
+        c.refuses("what", NO_RING, 0, 3, n -> x.ring(0, 0, 0, n));
     }
 
     @Case(promise = 9, says = {"-1,000,000: no such ones", "RINGS 0 .. (0 in the middle)"})
     static void ringOfTwoAndOfSix(Checker c) {
         RubbedWelds x = Given.cold(2);
         x.job(0, 0, 6);
-        for (int job = 0; job < 2; job++) {
-            int last = job == 0 ? 1 : 5;
-            c.due("ring -1", NO_RING, x.ring(job, 0, -1, 0));
-            c.due("ring 0", 20, x.ring(job, 0, 0, 0));
-            c.due("the last ring", 20, x.ring(job, 0, last, 0));
-            c.due("the ring behind it", NO_RING, x.ring(job, 0, last + 1, 0));
-            for (int n : Given.NO_NUMBERS) {
-                c.due("ring " + n, NO_RING, x.ring(job, 0, n, 0));
-            }
-        }
+        c.due("the first of two", 20, x.ring(0, 0, 0, 0));
+        c.due("the last of two", 20, x.ring(0, 0, 1, 0));
+        c.refuses("ring of two", NO_RING, 0, 1, n -> x.ring(0, 0, n, 0));
+        c.due("the first of six", 20, x.ring(1, 0, 0, 0));
+        c.due("the last of six", 20, x.ring(1, 0, 5, 0));
+        c.refuses("ring of six", NO_RING, 0, 5, n -> x.ring(1, 0, n, 0));
     }
 
     @Case(promise = 9, says = "-1,000,000: no such ones")
@@ -156,19 +149,20 @@ final class BoundsOfWelds {
     }
 
     @Case(promise = 9, says = "-1,000,000: no such ones")
-    static void ringOfNoSuchWeld(Checker c) {
+    static void ringOfNoJob(Checker c) {
+        c.due("without jobs", NO_RING, Given.stuffs(1).ring(0, 0, 0, 0));
         RubbedWelds x = Given.still();
-        c.due("job -1", NO_RING, x.ring(-1, 0, 0, 0));
-        c.due("job 1", NO_RING, x.ring(1, 0, 0, 0));
-        c.due("setting -1", NO_RING, x.ring(0, -1, 0, 0));
-        c.due("setting 729", NO_RING, x.ring(0, 729, 0, 0));
+        c.due("job 0", 41, x.ring(0, 0, 0, 0));
+        c.refuses("job", NO_RING, 0, 0, n -> x.ring(n, 0, 0, 0));
+    }
+
+    @Case(promise = 9, says = "-1,000,000: no such ones")
+    static void ringOfNoSetting(Checker c) {
+        RubbedWelds x = Given.still();
         c.due("setting 0", 41, x.ring(0, 0, 0, 0));
-        c.due("setting 728", 0, Math.min(0, x.ring(0, 728, 0, 0)));
-        for (int n : Given.NO_NUMBERS) {
-            c.due("job " + n, NO_RING, x.ring(n, 0, 0, 0));
-        }
-        c.due("setting far above", NO_RING, x.ring(0, Integer.MAX_VALUE, 0, 0));
-        c.due("setting far below", NO_RING, x.ring(0, Integer.MIN_VALUE, 0, 0));
+        // 20, 81 in tick 1 and half of that in tick 2, which gives enough.
+        c.due("setting 728", 141, x.ring(0, 728, 0, 0));
+        c.refuses("setting", NO_RING, 0, 728, n -> x.ring(0, n, 0, 0));
     }
 
     @Case(promise = 9, says = "WARM 20 each, OUT 0, PEAK 20, FALL 0")
@@ -362,17 +356,20 @@ final class BoundsOfWelds {
     }
 
     @Case(promise = 10, says = "no such ones")
-    static void byOfNoSuchOnes(Checker c) {
+    static void byOfNoJob(Checker c) {
+        c.due("without jobs", -1, Given.stuffs(1).by(0, 0));
         RubbedWelds x = Given.still();
+        c.due("job 0", 0, x.by(0, 0));
+        c.refuses("job", -1, 0, 0, n -> x.by(n, 0));
+    }
+
+    @Case(promise = 10, says = "no such ones")
+    static void byOfNoSetting(Checker c) {
+        // HOT is far above what either of them comes to.
+        RubbedWelds x = Given.jobOf(2, 10, 10, 0, 50, 1, 999, 10, 500);
         c.due("setting 0", 0, x.by(0, 0));
-        c.due("job -1", -1, x.by(-1, 0));
-        c.due("job 1", -1, x.by(1, 0));
-        c.due("setting -1", -1, x.by(0, -1));
-        c.due("setting 729", -1, x.by(0, 729));
-        for (int n : Given.NO_NUMBERS) {
-            c.due("job " + n, -1, x.by(n, 0));
-        }
-        c.due("setting far", -1, x.by(0, Integer.MAX_VALUE));
+        c.due("setting 728", 0, x.by(0, 728));
+        c.refuses("setting", -1, 0, 728, n -> x.by(0, n));
     }
 
     // Promise 11
@@ -418,17 +415,18 @@ final class BoundsOfWelds {
     }
 
     @Case(promise = 11, says = "NONE: no such ones")
-    static void ticksOfNoSuchOnes(Checker c) {
+    static void ticksOfNoJob(Checker c) {
+        c.due("without jobs", -1, Given.stuffs(1).ticks(0, 0));
+        RubbedWelds x = Given.still();
+        c.due("job 0", 21, x.ticks(0, 0));
+        c.refuses("job", -1, 0, 0, n -> x.ticks(n, 0));
+    }
+
+    @Case(promise = 11, says = "NONE: no such ones")
+    static void ticksOfNoSetting(Checker c) {
         RubbedWelds x = Given.still();
         c.due("setting 0", 21, x.ticks(0, 0));
         c.due("setting 728", 2, x.ticks(0, 728));
-        c.due("job -1", -1, x.ticks(-1, 0));
-        c.due("job 1", -1, x.ticks(1, 0));
-        c.due("setting -1", -1, x.ticks(0, -1));
-        c.due("setting 729", -1, x.ticks(0, 729));
-        for (int n : Given.NO_NUMBERS) {
-            c.due("job " + n, -1, x.ticks(n, 0));
-        }
-        c.due("setting far", -1, x.ticks(0, Integer.MIN_VALUE));
+        c.refuses("setting", -1, 0, 728, n -> x.ticks(0, n));
     }
 }

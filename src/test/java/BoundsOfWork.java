@@ -27,11 +27,7 @@ final class BoundsOfWork {
     static void workOfNoJob(Checker c) {
         c.due("without jobs", -1, Given.stuffs(1).work(0, 0));
         RubbedWelds x = entries(0);
-        c.due("job -1", -1, x.work(-1, 0));
-        c.due("job 2", -1, x.work(2, 0));
-        for (int n : Given.NO_NUMBERS) {
-            c.due("job " + n, -1, x.work(n, 0));
-        }
+        c.refuses("job", -1, 0, 1, n -> x.work(n, 0));
         c.due("no entry came of it", 0, x.count(6));
         c.due("job 0", 0, x.work(0, 0));
         c.due("job 1", 1, x.work(1, 0));
@@ -40,10 +36,7 @@ final class BoundsOfWork {
     @Case(promise = 29, says = "NONE: no such ones")
     static void workOfNoSetting(Checker c) {
         RubbedWelds x = entries(0);
-        c.due("setting -1", -1, x.work(0, -1));
-        c.due("setting 729", -1, x.work(0, 729));
-        c.due("far below", -1, x.work(0, Integer.MIN_VALUE));
-        c.due("far above", -1, x.work(0, Integer.MAX_VALUE));
+        c.refuses("setting", -1, 0, 728, n -> x.work(0, n));
         c.due("no entry came of it", 0, x.count(6));
         c.due("setting 0", 0, x.work(0, 0));
         c.due("setting 728", 1, x.work(0, 728));
@@ -114,16 +107,12 @@ final class BoundsOfWork {
     @Case(promise = 31, says = "no such i")
     static void orderOfNoSuchPlace(Checker c) {
         RubbedWelds x = entries(3);
-        c.due("place -2", -1, x.order(-2));
         c.due("sum", 0, x.order(RubbedWelds.NONE));
         c.due("place 0", 0, x.order(0));
         c.due("place 2", 2, x.order(2));
-        c.due("place 3", -1, x.order(3));
         c.due("place 7", -1, x.order(7));
         c.due("place 8", -1, x.order(8));
-        for (int n : Given.NO_NUMBERS) {
-            c.due("place " + n, -1, x.order(n));
-        }
+        c.refuses("place", -1, -1, 2, n -> x.order(n));
     }
 
     @Case(promise = 31, says = {"CHANGE from one to the next: 3 times the steps of turn, 2 times those of push, those "
@@ -202,11 +191,7 @@ final class BoundsOfWork {
         for (int what = 0; what <= 6; what++) {
             c.due("count(" + what + ")", due[what], x.count(what));
         }
-        c.due("count(-1)", -1, x.count(-1));
-        c.due("count(7)", -1, x.count(7));
-        for (int n : Given.NO_NUMBERS) {
-            c.due("count(" + n + ")", -1, x.count(n));
-        }
+        c.refuses("count", -1, 0, 6, n -> x.count(n));
     }
 
     @Case(promise = 32, says = "0 NOW, 1 STUFFS, 2 JOBS, 3 WINDOWS, 4 numbers on the TAPE, 5 JOINTS, 6 entries")
@@ -335,5 +320,40 @@ final class BoundsOfWork {
     static void refusedWorkChangesNothing(Checker c) {
         leavesAllAsItWas(c, "work(2, 0)", x -> x.work(2, 0) == -1);
         leavesAllAsItWas(c, "work(0, 729)", x -> x.work(0, 729) == -1);
+    }
+
+    @Case(promise = 6, says = "None; refused")
+    static void refusedToldChangesNothing(Checker c) {
+        leavesAllAsItWas(c, "told(2, 0)", x -> Checker.throwsNoSuch(x, 2, 0));
+        leavesAllAsItWas(c, "told(0, 9)", x -> Checker.throwsNoSuch(x, 0, 9));
+    }
+
+    @Case(promise = 9, says = "None; refused")
+    static void refusedQuestionsOfWeldsChangeNothing(Checker c) {
+        leavesAllAsItWas(c, "setting", x -> x.setting(1, 10, 1) == -1);
+        leavesAllAsItWas(c, "verdict", x -> x.verdict(2, 0) == -1 && x.verdict(0, 729) == -1);
+        leavesAllAsItWas(c, "ring", x -> x.ring(0, 0, 2, 0) == -1000000 && x.ring(0, 0, 0, 4) == -1000000);
+        leavesAllAsItWas(c, "by", x -> x.by(2, 0) == -1 && x.by(0, -1) == -1);
+        leavesAllAsItWas(c, "ticks", x -> x.ticks(2, 0) == -1 && x.ticks(0, 729) == -1);
+        leavesAllAsItWas(c, "mended", x -> x.mended(2, 0) == -1 && x.mended(0, -1) == -1);
+    }
+
+    @Case(promise = 15, says = "None; refused")
+    static void refusedQuestionsOfWindowsChangeNothing(Checker c) {
+        leavesAllAsItWas(c, "good", x -> x.good(1) == -1);
+        leavesAllAsItWas(c, "leaves", x -> x.leaves(1) == -1);
+        leavesAllAsItWas(c, "proof", x -> x.proof(1, 0) == -1 && x.proof(0, 5) == -1);
+        leavesAllAsItWas(c, "check", x -> x.check(1) == -2);
+        leavesAllAsItWas(c, "greatest", x -> x.greatest(1, 0) == -1 && x.greatest(0, 3) == -1);
+        leavesAllAsItWas(c, "edge", x -> x.edge(1, 162) == -1 && x.edge(0, 164) == -1);
+    }
+
+    @Case(promise = 26, says = "None; refused")
+    static void refusedQuestionsOfDaysChangeNothing(Checker c) {
+        leavesAllAsItWas(c, "tried", x -> x.tried(2, 0) == -1 && x.tried(1, 2) == -1 && x.tried(0, 4) == -1);
+        leavesAllAsItWas(c, "odd", x -> x.odd(4) == -1 && x.odd(-1) == -1);
+        leavesAllAsItWas(c, "led", x -> x.led(4) == -1 && x.led(-1) == -1);
+        leavesAllAsItWas(c, "order", x -> x.order(3) == -1 && x.order(-2) == -1);
+        leavesAllAsItWas(c, "count", x -> x.count(7) == -1 && x.count(-1) == -1);
     }
 }

@@ -1,4 +1,5 @@
 import java.util.NoSuchElementException;
+import java.util.function.IntToLongFunction;
 
 /** Counts answers that are not as due, and says which. */
 final class Checker {
@@ -29,14 +30,28 @@ final class Checker {
         due(what + ": " + got + ", wanted " + want, true, want.equals(got));
     }
 
-    void throwsNoSuch(RubbedWelds welds, int job, int what) {
-        boolean thrown = false;
+    /** Asks for the number below the least, for that above the most, and for far ones: all of them are refused. */
+    void refuses(String what, long due, int least, int most, IntToLongFunction call) {
+        due(what + " " + (least - 1) + ", one too small", due, call.applyAsLong(least - 1));
+        due(what + " " + (most + 1) + ", one too large", due, call.applyAsLong(most + 1));
+        for (int far : Given.NO_NUMBERS) {
+            if (far < least || far > most) {
+                due(what + " " + far, due, call.applyAsLong(far));
+            }
+        }
+    }
+
+    static boolean throwsNoSuch(RubbedWelds welds, int job, int what) {
         try {
             welds.told(job, what);
+            return false;
         } catch (NoSuchElementException e) {
-            thrown = true;
+            return true;
         }
-        due("told(" + job + ", " + what + ") throws", true, thrown);
+    }
+
+    void dueToThrow(RubbedWelds welds, int job, int what) {
+        due("told(" + job + ", " + what + ") throws", true, throwsNoSuch(welds, job, what));
     }
 
     int asked() {

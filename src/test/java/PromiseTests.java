@@ -103,7 +103,7 @@ public final class PromiseTests {
         RubbedWelds x = new RubbedWelds();
         x.stuff(1, 100, 300, 900, 100, 999, 500, 1);
         x.stuff(100, 1, 0, 50, 97, 50, 0, 500);
-        c.throwsNoSuch(x, 0, 0);
+        c.dueToThrow(x, 0, 0);
         x.job(0, 1, 5);
         x.job(1, 1, 2);
         int[] due = {50, 50, 150, 50, 98, 999, 500, 1, 5};
@@ -112,13 +112,13 @@ public final class PromiseTests {
             c.due("told " + what, due[what], x.told(0, what));
             c.due("told of one twice " + what, twice[what], x.told(1, what));
         }
-        c.throwsNoSuch(x, 0, 9);
-        c.throwsNoSuch(x, 0, -1);
-        c.throwsNoSuch(x, 2, 0);
-        c.throwsNoSuch(x, -1, 0);
+        c.dueToThrow(x, 0, 9);
+        c.dueToThrow(x, 0, -1);
+        c.dueToThrow(x, 2, 0);
+        c.dueToThrow(x, -1, 0);
         for (int far : FAR) {
-            c.throwsNoSuch(x, far, 0);
-            c.throwsNoSuch(x, 0, far);
+            c.dueToThrow(x, far, 0);
+            c.dueToThrow(x, 0, far);
         }
     }
 
