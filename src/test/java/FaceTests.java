@@ -18,39 +18,10 @@ import java.util.regex.Pattern;
 /** The face is the document's and no more, and the source keeps to what LANGUAGE.md says and a machine can see. */
 public final class FaceTests {
     private static final Path SOURCE = Path.of("src/main/java/RubbedWelds.java");
-    private static final String FACE = """
-        int days(int)
-        int stuff(int,int,int,int,int,int,int,int)
-        boolean bar(int,int)
-        int job(int,int,int)
-        int told(int,int)
-        int setting(int,int,int)
-        int verdict(int,int)
-        int ring(int,int,int,int)
-        int by(int,int)
-        int ticks(int,int)
-        int window(int,int,int)
-        int good(int)
-        int leaves(int)
-        int proof(int,int)
-        int tell(int)
-        int copy(int)
-        boolean alter(int,int)
-        boolean end(int)
-        int check(int)
-        int greatest(int,int)
-        int edge(int,int)
-        int mended(int,int)
-        int joint(int,int)
-        boolean attempt(int,boolean)
-        int tried(int,int)
-        int odd(int)
-        int led(int)
-        int work(int,int)
-        void clear()
-        int order(int)
-        int count(int)
-        """;
+    private static final Path DOCUMENT = Path.of("../shared/DOC.md");
+    private static final Pattern FACE_METHOD = Pattern.compile("    public (\\w+ \\w+)\\((.*)\\)( throws \\w+)?;");
+    private static final int PROMISED_METHODS = 31;
+    private static final int MOST_PARAMETERS = 7;
     private static final String[] RULED_OUT = {"synchronized", "finally", "assert", "->", "::", "catch", "try", "var",
         "System\\.(?!arraycopy)", "\\w+Exact", "double", "float", "Thread", "Random", "Object", "protected"};
 
@@ -64,7 +35,20 @@ public final class FaceTests {
         return m.getReturnType().getName() + " " + m.getName() + "(" + String.join(",", types) + ")";
     }
 
-    private void methods() throws NoSuchMethodException {
+    /** The methods that the document prints under "The public face", as signatures. */
+    private Set<String> promised() throws IOException {
+        Set<String> promised = new TreeSet<>();
+        for (String line : Files.readString(DOCUMENT).split("\\n")) {
+            Matcher method = FACE_METHOD.matcher(line);
+            if (method.matches()) {
+                promised.add(method.group(1) + "(" + method.group(2).replaceAll(" \\w+(,|$) ?", "$1") + ")");
+            }
+        }
+        c.due("methods in the document", PROMISED_METHODS, promised.size());
+        return promised;
+    }
+
+    private void methods() throws IOException, NoSuchMethodException {
         Set<String> found = new TreeSet<>();
         Set<String> publicNames = new HashSet<>();
         Set<String> privateNames = new HashSet<>();
@@ -74,14 +58,15 @@ public final class FaceTests {
                 publicNames.add(m.getName());
             } else {
                 c.due(m.getName() + " is private", true, Modifier.isPrivate(m.getModifiers()));
+                parameters(m);
                 privateNames.add(m.getName());
             }
         }
-        Set<String> wanted = new TreeSet<>(Arrays.asList(FACE.strip().split("\\n")));
-        c.due("the methods of the face: " + found, true, wanted.equals(found));
+        c.due("the methods of the face", promised().toString(), found.toString());
         for (Class<?> inside : RubbedWelds.class.getDeclaredClasses()) {
             for (Method m : inside.getDeclaredMethods()) {
                 privateNames.add(m.getName());
+                parameters(m);
             }
         }
         for (String name : privateNames) {
@@ -89,6 +74,11 @@ public final class FaceTests {
         }
         Class<?>[] thrown = RubbedWelds.class.getMethod("told", int.class, int.class).getExceptionTypes();
         c.due("told names its exception", true, Arrays.equals(thrown, new Class<?>[] {NoSuchElementException.class}));
+    }
+
+    /** The face's own parameters are the document's, so that rule 11 binds the others. */
+    private void parameters(Method m) {
+        c.due(m.getName() + " has at most seven parameters", true, m.getParameterCount() <= MOST_PARAMETERS);
     }
 
     private void rest() {
